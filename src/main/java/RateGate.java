@@ -513,7 +513,7 @@ public final class RateGate {
         }
 
         private char signAt(int place) {
-            return place >= 0 && place < length ? signs[place] : NO_SIGN;
+            return place >= 0 && place < length && place < signs.length ? signs[place] : NO_SIGN;
         }
 
         private static boolean isDigit(char sign) {

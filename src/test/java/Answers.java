@@ -28,12 +28,15 @@ final class Answers {
         compare(what, outcome(call), "throws " + want.getName());
     }
 
-    /** The answer of a call, or the exception that it throws, as a text. */
+    /** The answer of a call, or the exception that it throws, as a text; what the library throws is told apart. */
     static String outcome(Call call) {
         try {
             return Long.toString(call.answer());
         } catch (RuntimeException e) {
-            return "throws " + e.getClass().getName();
+            StackTraceElement[] trace = e.getStackTrace();
+            boolean isByLibrary = trace.length == 0 || trace[0].getClassName().startsWith("java.")
+                    || trace[0].getClassName().startsWith("jdk.");
+            return "throws " + e.getClass().getName() + (isByLibrary ? " in the library" : "");
         }
     }
 

@@ -38,6 +38,7 @@ public final class PromisesTest {
         bill();
         close();
         billed();
+        useBehind512Calls();
         Answers.end();
     }
 
@@ -784,5 +785,20 @@ public final class PromisesTest {
         for (int wrong : new int[] {-1, 6, Integer.MIN_VALUE, Integer.MAX_VALUE}) {
             Answers.dueThrow("billed(" + wrong + ")", INDEX, () -> gate.billed(wrong));
         }
+    }
+
+    // ---- what is free
+
+    /** What the answers are is free then, but nothing may break; and these are kept right. */
+    private static void useBehind512Calls() {
+        RateGate gate = new RateGate();
+        gate.quota(1, 0, 1440);
+        for (int i = 0; i < 1300; i++) {
+            Answers.due("LIMITED", callWith(gate, "S=1;C=0;F=0;T=0;W=1"), RateGate.LIMITED);
+        }
+        callWith(gate, "S=0;C=0;F=0;T=0;W=1");
+        Answers.due("all calls", gate.calls(), 1301);
+        dueLeft(gate, "behind 1300 calls", 0, 9);
+        dueLeft(gate, "behind 1300 calls that were LIMITED", 1, 0);
     }
 }
