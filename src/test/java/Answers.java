@@ -5,10 +5,24 @@ final class Answers {
         long answer();
     }
 
+    private static String test = "";
     private static int compared = 0;
     private static int wrong = 0;
 
     private Answers() {
+    }
+
+    /** Names the test that compares from now on. */
+    static void begin(String name) {
+        test = name;
+    }
+
+    static int compared() {
+        return compared;
+    }
+
+    static int wrong() {
+        return wrong;
     }
 
     static void due(String what, long got, long want) {
@@ -52,7 +66,7 @@ final class Answers {
         compared++;
         if (!got.equals(want)) {
             wrong++;
-            System.out.println(what + " answered " + got + ", due is " + want);
+            System.out.println((test.isEmpty() ? "" : test + ": ") + what + " answered " + got + ", due is " + want);
         }
     }
 }

@@ -1,9 +1,5 @@
 /** For each promise: ordinary inputs, the edges that the document names, and wrong inputs. */
-public final class PromisesTest {
-    private static final Class<IllegalArgumentException> ARGUMENT = IllegalArgumentException.class;
-    private static final Class<IllegalStateException> STATE = IllegalStateException.class;
-    private static final Class<IndexOutOfBoundsException> INDEX = IndexOutOfBoundsException.class;
-
+public final class PromisesTest extends GateCalls {
     public static void main(String[] args) {
         newObject();
         type();
@@ -40,39 +36,6 @@ public final class PromisesTest {
         billed();
         useBehind512Calls();
         Answers.end();
-    }
-
-    private static void typeAll(RateGate gate, String text) {
-        for (int i = 0; i < text.length(); i++) {
-            gate.type(text.charAt(i));
-        }
-    }
-
-    private static int callWith(RateGate gate, String text) {
-        gate.wipe();
-        typeAll(gate, text);
-        return gate.call();
-    }
-
-    private static void passAll(RateGate gate, int minutes) {
-        for (int rest = minutes; rest > 0; rest -= 500) {
-            gate.pass(Math.min(rest, 500));
-        }
-    }
-
-    private static String faultOf(String text) {
-        RateGate gate = new RateGate();
-        typeAll(gate, text);
-        StringBuilder fault = new StringBuilder();
-        for (int i = 0; i < gate.faultLength(); i++) {
-            fault.append(gate.fault(i));
-        }
-        Answers.due("isRight() with " + text, gate.isRight(), fault.length() == 0);
-        return fault.toString();
-    }
-
-    private static void dueFault(String text, String want) {
-        Answers.due("the fault of " + text, faultOf(text), want);
     }
 
     // ---- requests
@@ -403,13 +366,6 @@ public final class PromisesTest {
         Answers.due("no rate, while OPEN", callWith(gate, "S=0;C=0;F=1;T=7;W=100"), RateGate.REFUSED);
     }
 
-    private static void openCircuit(RateGate gate, int carrier) {
-        gate.carrier(carrier, false, 0);
-        Answers.due("fails", callWith(gate, "S=5;C=" + carrier + ";F=7;T=7;W=1"), RateGate.FAILED);
-        Answers.due("fails", callWith(gate, "S=5;C=" + carrier + ";F=7;T=7;W=1"), RateGate.FAILED);
-        Answers.due("is OPEN", gate.circuit(carrier), RateGate.OPEN);
-    }
-
     private static void callIsRefusedOrFails() {
         RateGate gate = new RateGate();
         openCircuit(gate, 2);
@@ -467,11 +423,6 @@ public final class PromisesTest {
         for (int wrong : new int[] {-1, 2, Integer.MIN_VALUE, Integer.MAX_VALUE}) {
             Answers.dueThrow("fixed(" + wrong + ")", INDEX, () -> gate.fixed(wrong));
         }
-    }
-
-    private static void dueLeft(RateGate gate, String what, int shipper, int want) {
-        Answers.due("left, " + what, gate.left(shipper), want);
-        Answers.due("leftByLog, " + what, gate.leftByLog(shipper), want);
     }
 
     private static void left() {
