@@ -148,7 +148,8 @@ public final class Mutants {
     }
 
     private static boolean isCompiled(Path folder, Path source) throws IOException {
-        List<String> arguments = new ArrayList<>(List.of("-proc:none", "-nowarn", "-d", folder.toString(), source.toString()));
+        List<String> arguments = new ArrayList<>(List.of("-proc:none", "-nowarn", "-d", folder.toString()));
+        arguments.add(source.toString());
         for (String name : List.of("Answers", "Holds", "Sentences", "GateCalls", "RequestSentencesTest",
                 "SettingSentencesTest", "CallSentencesTest", "ParcelSentencesTest")) {
             arguments.add(TESTS.resolve(name + ".java").toString());
